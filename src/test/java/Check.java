@@ -1,0 +1,73 @@
+/** What all tests share: they count answers that are not as due, and end with exit code 1 if there was one. */
+final class Check {
+    static final Class<IllegalArgumentException> ARGUMENT = IllegalArgumentException.class;
+    static final Class<IndexOutOfBoundsException> INDEX = IndexOutOfBoundsException.class;
+    static final Class<UnsupportedOperationException> UNSUPPORTED = UnsupportedOperationException.class;
+    static final Class<java.util.NoSuchElementException> ELEMENT = java.util.NoSuchElementException.class;
+
+    private static int wrong = 0;
+
+    private Check() {
+    }
+
+    static void due(String call, long got, long want) {
+        if (got != want) {
+            fail(call + " answered " + got + ", due is " + want);
+        }
+    }
+
+    static void due(String call, boolean got, boolean want) {
+        due(call, got ? 1 : 0, want ? 1 : 0);
+    }
+
+    static void thrown(String call, Class<?> want, Runnable body) {
+        Class<?> got = null;
+        try {
+            body.run();
+        } catch (RuntimeException e) {
+            got = e.getClass();
+        }
+        if (got != want) {
+            fail(call + " threw " + got + ", due is " + want);
+        }
+    }
+
+    static void fail(String message) {
+        wrong++;
+        if (wrong <= 50) {
+            System.out.println(message);
+        }
+    }
+
+    static void finish() {
+        if (wrong != 0) {
+            System.out.println(wrong + " answers are not as due");
+            System.exit(1);
+        }
+    }
+
+    /** The text alone is on the tape afterwards; it must have been empty. */
+    static void feedText(CorkForest x, String text) {
+        for (int begin = 0; begin < text.length(); begin += 20) {
+            int[] numbers = new int[5];
+            for (int i = 0; i < 20; i++) {
+                int sign = begin + i < text.length() ? text.charAt(begin + i) : 0;
+                numbers[i / 4] = numbers[i / 4] << 8 | sign & 255;
+            }
+            due("feed of a text", x.feed(numbers[0], numbers[1], numbers[2], numbers[3], numbers[4]), begin + 20);
+        }
+        due("end of a text", x.end(text.length()), true);
+    }
+
+    /** Sets the law by a text that is right. */
+    static void law(CorkForest x, String text, int clauses) {
+        feedText(x, text);
+        due("law of " + text, x.law(), clauses);
+    }
+
+    static void lawFails(CorkForest x, String text, int fault) {
+        feedText(x, text);
+        thrown("law of '" + text + "'", ARGUMENT, x::law);
+        due("fault of '" + text + "'", x.fault(), fault);
+    }
+}
