@@ -6,8 +6,19 @@ final class Check {
     static final Class<java.util.NoSuchElementException> ELEMENT = java.util.NoSuchElementException.class;
 
     private static int wrong = 0;
+    private static String sentence = "";
 
     private Check() {
+    }
+
+    /** What follows tests these words of the document; a wrong answer is told with them. */
+    static void sentence(int promise, String words) {
+        sentence = "promise " + promise + ", '" + words + "': ";
+    }
+
+    /** As sentence, of words that stand in the document's Terms. */
+    static void term(String words) {
+        sentence = "terms, '" + words + "': ";
     }
 
     static void due(String call, long got, long want) {
@@ -20,22 +31,39 @@ final class Check {
         due(call, got ? 1 : 0, want ? 1 : 0);
     }
 
+    static void same(String call, Object got, Object want) {
+        if (!java.util.Objects.equals(got, want)) {
+            fail(call + " answered " + got + ", due is " + want);
+        }
+    }
+
     static void thrown(String call, Class<?> want, Runnable body) {
-        Class<?> got = null;
+        Object got = null;
         try {
             body.run();
         } catch (RuntimeException e) {
-            got = e.getClass();
+            got = toldOf(e);
         }
         if (got != want) {
             fail(call + " threw " + got + ", due is " + want);
         }
     }
 
+    /** The exception's class if a throw of CorkForest's own has thrown it; else a text, which is never due. */
+    static Object toldOf(RuntimeException e) {
+        StackTraceElement[] trace = e.getStackTrace();
+        String thrower = trace.length == 0 ? "the machine" : trace[0].getClassName();
+        boolean own = thrower.equals("CorkForest") || thrower.startsWith("CorkForest$");
+        boolean machines = e instanceof ArrayIndexOutOfBoundsException || e instanceof NullPointerException
+            || e instanceof ClassCastException || e instanceof NegativeArraySizeException
+            || e instanceof ArrayStoreException || e instanceof ArithmeticException;
+        return own && !machines ? e.getClass() : e + " of " + thrower;
+    }
+
     static void fail(String message) {
         wrong++;
         if (wrong <= 50) {
-            System.out.println(message);
+            System.out.println(sentence + message);
         }
     }
 

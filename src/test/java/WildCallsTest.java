@@ -5,15 +5,32 @@ import java.util.Arrays;
 import java.util.Comparator;
 import java.util.List;
 import java.util.Random;
+import java.util.Set;
 
 /**
  * Runs of 512 calls with arguments of any kind: what is thrown is thrown by the class itself and told by the document
- * for that call, and a call that throws leaves everything as it was, but for the tape and the fault of a law.
+ * for that call. A second forest hears only those calls that were not refused, and must answer alike all along: so a
+ * refused call has changed nothing that the later calls could show.
  */
 final class WildCallsTest {
     private static final int[] EDGES = {-1, 0, 1, 2, 5, 6, 7, 8, 10, 12, 13, 20, 40, 50, 60, 100, 200, 600, 1000, 3000,
         1000000, 1000001, Integer.MAX_VALUE, Integer.MIN_VALUE};
     private static final String[] TEXTS = {"years 0;thick 0", "girth 0;rest 1", "first 400;height 400", "years", "?"};
+    /** With these a refused call answers NONE or false, or less what is against it, and nothing happens. */
+    private static final Set<String> REFUSING = Set.of("feed", "end", "strip", "put", "bid", "sell", "sort", "stand");
+
+    private final Random random;
+    private final String name;
+    private final int kind;
+    private final CorkForest hearsAll = new CorkForest();
+    private final CorkForest hearsSome = new CorkForest();
+    private boolean latestLawWrong = false;
+
+    private WildCallsTest(int run) {
+        random = new Random(run);
+        name = "run " + run + ": ";
+        kind = run % 3;
+    }
 
     public static void main(String[] args) throws Exception {
         List<Method> face = new ArrayList<>();
@@ -23,78 +40,79 @@ final class WildCallsTest {
             }
         }
         face.sort(Comparator.comparing(Method::getName));
-        for (int run = 0; run < 300; run++) {
-            wildRun(face, new Random(run), run);
+        for (int run = 0; run < 2000; run++) {
+            new WildCallsTest(run).runOver(face);
         }
         Check.finish();
     }
 
-    private static void wildRun(List<Method> face, Random random, int run) throws Exception {
-        CorkForest x = new CorkForest();
-        boolean tame = random.nextBoolean();
-        for (int call = 0; call < 512; call++) {
+    private void runOver(List<Method> face) throws Exception {
+        // A text takes three calls, and the call itself one.
+        for (int calls = 0; calls + 4 <= 512; calls++) {
             if (random.nextInt(12) == 0) {
-                x.end(0);
-                Check.feedText(x, TEXTS[random.nextInt(TEXTS.length)]);
+                calls += 3;
+                layText(TEXTS[random.nextInt(TEXTS.length)]);
             }
             Method method = face.get(random.nextInt(face.size()));
-            Object[] given = new Object[method.getParameterCount()];
-            for (int i = 0; i < given.length; i++) {
-                if (method.getParameterTypes()[i] == boolean.class) {
-                    given[i] = random.nextBoolean();
-                } else {
-                    given[i] = tame ? random.nextInt(40) : EDGES[random.nextInt(EDGES.length)];
-                }
+            call(method, argumentsFor(method));
+        }
+    }
+
+    private void layText(String text) {
+        hearsAll.end(0);
+        hearsSome.end(0);
+        Check.feedText(hearsAll, text);
+        Check.feedText(hearsSome, text);
+    }
+
+    private Object[] argumentsFor(Method method) {
+        Object[] given = new Object[method.getParameterCount()];
+        for (int i = 0; i < given.length; i++) {
+            if (method.getParameterTypes()[i] == boolean.class) {
+                given[i] = random.nextBoolean();
+            } else {
+                given[i] = number();
             }
-            String before = state(x);
-            try {
-                method.invoke(x, given);
-            } catch (InvocationTargetException e) {
-                String told = "run " + run + ": " + method.getName() + Arrays.toString(given);
-                judge(told, method, e.getCause());
-                if (!state(x).equals(before)) {
-                    Check.fail(told + " threw and changed something");
-                }
+        }
+        return given;
+    }
+
+    /** By the kind of the run: numbers of edges, small ones, or such that many calls come to something. */
+    private int number() {
+        if (kind == 0) {
+            return EDGES[random.nextInt(EDGES.length)];
+        }
+        if (kind == 1) {
+            return random.nextInt(40);
+        }
+        return random.nextInt(3) > 0 ? random.nextInt(4) : 20 + random.nextInt(180);
+    }
+
+    private void call(Method method, Object[] given) throws Exception {
+        String told = name + method.getName() + Arrays.toString(given);
+        Object answer;
+        try {
+            answer = method.invoke(hearsAll, given);
+        } catch (InvocationTargetException e) {
+            judge(told, method, e.getCause());
+            if (method.getName().equals("law")) {
+                latestLawWrong = true;
+                hearsSome.end(0);
             }
+            return;
+        }
+        latestLawWrong &= !method.getName().equals("law");
+        boolean refused = Boolean.FALSE.equals(answer) || answer instanceof Integer && (Integer) answer < 0;
+        boolean ofWrongLaw = method.getName().equals("fault") && latestLawWrong;
+        if (!ofWrongLaw && !(refused && REFUSING.contains(method.getName()))) {
+            Check.same(told, answer, method.invoke(hearsSome, given));
         }
     }
 
     private static void judge(String told, Method method, Throwable thrown) {
-        if (!Arrays.asList(method.getExceptionTypes()).contains(thrown.getClass())) {
-            Check.fail(told + " threw " + thrown);
-        } else if (!thrown.getStackTrace()[0].getClassName().startsWith("CorkForest")) {
-            Check.fail(told + " did not throw by itself: " + thrown.getStackTrace()[0]);
+        Object got = thrown instanceof RuntimeException ? Check.toldOf((RuntimeException) thrown) : thrown;
+        if (!Arrays.asList(method.getExceptionTypes()).contains(got)) {
+            Check.fail(told + " threw " + got);
         }
-    }
-
-    /** Everything that can be asked, but for the tape and the fault. */
-    private static String state(CorkForest x) {
-        StringBuilder text = new StringBuilder();
-        for (int what = 0; what <= 10; what++) {
-            text.append(x.count(what)).append(' ');
-        }
-        for (int what = 0; what < 6; what++) {
-            text.append(x.says(what)).append(' ');
-        }
-        for (int tree = 0; tree < x.count(1); tree++) {
-            for (int what = 0; what < 10; what++) {
-                text.append(x.look(tree, what)).append(' ');
-            }
-        }
-        for (int plank = 0; plank < x.count(2); plank++) {
-            for (int what = 0; what < 6; what++) {
-                text.append(x.plank(plank, what)).append(' ');
-            }
-        }
-        for (int lot = 0; lot < x.count(3); lot++) {
-            for (int what = 0; what < 5; what++) {
-                text.append(x.offer(lot, what)).append(' ');
-            }
-        }
-        text.append(x.punch(false)).append(' ').append(x.punch(true)).append(' ').append(x.even());
-        for (int stand = 0; stand < x.count(9); stand++) {
-            text.append(' ').append(x.plan(stand));
-        }
-        return text.toString();
     }
 }
