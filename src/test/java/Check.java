@@ -37,6 +37,33 @@ final class Check {
         }
     }
 
+    /** What look tells of a tree, for 0, 1, 2 .. as far as wanted. */
+    static void tree(CorkForest x, int tree, int... want) {
+        each("look(" + tree + ", #)", what -> x.look(tree, what), want);
+    }
+
+    static void plank(CorkForest x, int plank, int... want) {
+        each("plank(" + plank + ", #)", what -> x.plank(plank, what), want);
+    }
+
+    static void lot(CorkForest x, int lot, int... want) {
+        each("offer(" + lot + ", #)", what -> x.offer(lot, what), want);
+    }
+
+    static void counts(CorkForest x, int... want) {
+        each("count(#)", x::count, want);
+    }
+
+    static void says(String told, CorkForest x, int... want) {
+        each("says(#) " + told, x::says, want);
+    }
+
+    private static void each(String call, java.util.function.IntUnaryOperator asked, int... want) {
+        for (int what = 0; what < want.length; what++) {
+            due(call.replace("#", "" + what), asked.applyAsInt(what), want[what]);
+        }
+    }
+
     static void thrown(String call, Class<?> want, Runnable body) {
         Object got = null;
         try {

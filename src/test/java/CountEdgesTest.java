@@ -11,19 +11,10 @@ final class CountEdgesTest {
         Check.finish();
     }
 
-    private static void see(CorkForest x, int... want) {
-        for (int what = 0; what < want.length; what++) {
-            Check.due("count(" + what + ")", x.count(what), want[what]);
-        }
-    }
-
     private static void aNewObject() {
         Check.sentence(1, "No TREES; the LAW as told; a STRIP of one CELL without a FLAW");
-        see(new CorkForest(), 0, 0, 0, 0, 0, 0, 1, 0, 0, 0, 0);
-        int[] law = {9, 70, 250, 200, 5, 270};
-        for (int what = 0; what < law.length; what++) {
-            Check.due("says(" + what + ")", new CorkForest().says(what), law[what]);
-        }
+        Check.counts(new CorkForest(), 0, 0, 0, 0, 0, 0, 1, 0, 0, 0, 0);
+        Check.says("at first", new CorkForest(), 9, 70, 250, 200, 5, 270);
         CorkForest x = new CorkForest();
         Check.due("an empty tape", x.end(1), false);
         Check.due("no fault", x.fault(), -1);
@@ -37,7 +28,7 @@ final class CountEdgesTest {
 
     private static void aRichOne() {
         Check.sentence(27, "0 the YEAR, 1 TREES .. 9 STANDS, 10 TREES that are MARKED");
-        see(Made.rich(), 35, 5, 3, 3, 1, 40, 40, 4, 3, 3, 2);
+        Check.counts(Made.rich(), 35, 5, 3, 3, 1, 40, 40, 4, 3, 3, 2);
     }
 
     private static void theFullest() {

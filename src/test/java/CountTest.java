@@ -1,25 +1,10 @@
 /** Promises 1 and 27: a new object, count. */
 final class CountTest {
     public static void main(String[] args) {
-        aNewObject();
         everythingIsCounted();
         objectsAreApart();
         Check.due("NONE", CorkForest.NONE, -1);
         Check.finish();
-    }
-
-    private static void see(CorkForest x, int... want) {
-        for (int what = 0; what < want.length; what++) {
-            Check.due("count(" + what + ")", x.count(what), want[what]);
-        }
-        Check.due("count(11)", x.count(11), -1);
-        Check.due("count(-1)", x.count(-1), -1);
-        Check.due("count(most)", x.count(Integer.MAX_VALUE), -1);
-        Check.due("count(least)", x.count(Integer.MIN_VALUE), -1);
-    }
-
-    private static void aNewObject() {
-        see(new CorkForest(), 0, 0, 0, 0, 0, 0, 1, 0, 0, 0, 0);
     }
 
     private static void everythingIsCounted() {
@@ -46,7 +31,7 @@ final class CountTest {
         x.stand(1, 1);
         x.stand(1, 1);
         x.stand(1, 1);
-        see(x, 31, 5, 2, 4, 3, 2999994, 40, 4, 2, 3, 2);
+        Check.counts(x, 31, 5, 2, 4, 3, 2999994, 40, 4, 2, 3, 2);
     }
 
     private static void objectsAreApart() {
@@ -59,7 +44,7 @@ final class CountTest {
         x.sort(1, 1, 1);
         x.stand(1, 1);
         Check.law(x, "years 1", 1);
-        see(y, 0, 0, 0, 0, 0, 0, 1, 0, 0, 0, 0);
+        Check.counts(y, 0, 0, 0, 0, 0, 0, 1, 0, 0, 0, 0);
         Check.due("the other law", y.says(0), 9);
     }
 }

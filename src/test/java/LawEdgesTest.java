@@ -27,23 +27,17 @@ final class LawEdgesTest {
         Check.finish();
     }
 
-    private static void says(String told, CorkForest x, int... want) {
-        for (int what = 0; what < 6; what++) {
-            Check.due("says(" + what + ") " + told, x.says(what), want[what]);
-        }
-    }
-
     private static void right(String text, int clauses, int... want) {
         CorkForest x = new CorkForest();
         Check.law(x, text, clauses);
-        says("behind '" + text + "'", x, want);
+        Check.says("behind '" + text + "'", x, want);
         Check.due("fault behind '" + text + "'", x.fault(), -1);
     }
 
     private static void wrong(String text, int fault) {
         CorkForest x = new CorkForest();
         Check.lawFails(x, text, fault);
-        says("behind '" + text + "'", x, AT_FIRST);
+        Check.says("behind '" + text + "'", x, AT_FIRST);
     }
 
     private static void numbersOfEachClause() {
@@ -166,13 +160,13 @@ final class LawEdgesTest {
         Check.term("What a text does not tell stays as it is");
         CorkForest x = new CorkForest();
         Check.law(x, "thick 1", 1);
-        says("behind thick", x, 9, 70, 250, 200, 5, 1);
+        Check.says("behind thick", x, 9, 70, 250, 200, 5, 1);
         Check.law(x, "years 2;girth 3", 2);
-        says("behind years and girth", x, 2, 3, 250, 200, 5, 1);
+        Check.says("behind years and girth", x, 2, 3, 250, 200, 5, 1);
         Check.law(x, "height 4;first 6;rest 7", 3);
-        says("behind height, first and rest", x, 2, 3, 4, 6, 7, 1);
+        Check.says("behind height, first and rest", x, 2, 3, 4, 6, 7, 1);
         Check.law(x, "girth 0", 1);
-        says("behind girth 0", x, 2, 0, 4, 6, 7, 1);
+        Check.says("behind girth 0", x, 2, 0, 4, 6, 7, 1);
     }
 
     private static void theLaterClauseCounts() {
@@ -308,7 +302,7 @@ final class LawEdgesTest {
         Check.sentence(8, "what 0 YEARS, 1 GIRTH, 2 HEIGHT, 3 FIRST, 4 REST, 5 THICK. NoSuchElementException: another what");
         CorkForest x = new CorkForest();
         Check.law(x, "thick 5;rest 4;first 3;height 2;girth 1;years 0", 6);
-        says("in its order", x, 0, 1, 2, 3, 4, 5);
+        Check.says("in its order", x, 0, 1, 2, 3, 4, 5);
         int[] other = {Made.LEAST, -2, -1, 6, 7, Made.MOST};
         Twins.refusedEach("says(#)", Made::empty, CorkForest::says, Check.ELEMENT, other);
         Twins.refusedEach("says(#)", Made::rich, CorkForest::says, Check.ELEMENT, other);

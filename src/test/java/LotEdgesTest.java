@@ -29,12 +29,6 @@ final class LotEdgesTest {
         Check.finish();
     }
 
-    private static void see(CorkForest x, int lot, int... want) {
-        for (int what = 0; what < want.length; what++) {
-            Check.due("offer(" + lot + ", " + what + ")", x.offer(lot, what), want[what]);
-        }
-    }
-
     private static CorkForest oneLot(int floor) {
         CorkForest x = new CorkForest();
         x.lot(floor);
@@ -50,7 +44,7 @@ final class LotEdgesTest {
         for (int floor : good) {
             CorkForest x = Made.rich();
             Check.due("lot(" + floor + ")", x.lot(floor), 3);
-            see(x, 3, floor, 0, 0, -1, -1);
+            Check.lot(x, 3, floor, 0, 0, -1, -1);
         }
     }
 
@@ -77,9 +71,9 @@ final class LotEdgesTest {
 
     private static void aNewLot() {
         Check.sentence(15, "A new LOT without PLANKS: its number");
-        see(oneLot(0), 0, 0, 0, 0, -1, -1);
-        see(Made.rich(), 2, 7, 0, 0, -1, -1);
-        see(Made.fullLots(), 19, 19, 0, 0, -1, -1);
+        Check.lot(oneLot(0), 0, 0, 0, 0, -1, -1);
+        Check.lot(Made.rich(), 2, 7, 0, 0, -1, -1);
+        Check.lot(Made.fullLots(), 19, 19, 0, 0, -1, -1);
     }
 
     private static void aPlankThatIsInALot() {
@@ -91,10 +85,10 @@ final class LotEdgesTest {
         CorkForest x = Made.rich();
         Check.due("put(2, 2), which is in none", x.put(2, 2), true);
         Check.due("its lot", x.plank(2, 5), 2);
-        see(x, 2, 7, 1, 3306, -1, -1);
+        Check.lot(x, 2, 7, 1, 3306, -1, -1);
         CorkForest y = Made.rich();
         Check.due("put(0, 2) beside another", y.put(0, 2), true);
-        see(y, 0, 100, 2, 14400 + 3306, -1, -1);
+        Check.lot(y, 0, 100, 2, 14400 + 3306, -1, -1);
     }
 
     private static void aLotThatIsSold() {
@@ -104,7 +98,7 @@ final class LotEdgesTest {
         Check.due("sell(0)", x.sell(0), 2);
         Check.due("put(0, 2)", x.put(0, 2), false);
         Check.due("its lot", x.plank(2, 5), -1);
-        see(x, 0, 100, 1, 14400, 2, 120);
+        Check.lot(x, 0, 100, 1, 14400, 2, 120);
         Check.due("put(2, 2)", x.put(2, 2), true);
     }
 
@@ -146,14 +140,14 @@ final class LotEdgesTest {
         CorkForest x = Made.lenient();
         x.tree(600);
         x.lot(0);
-        see(x, 0, 0, 0, 0, -1, -1);
+        Check.lot(x, 0, 0, 0, 0, -1, -1);
         for (int plank = 0; plank < 120; plank++) {
             x.years(1, 200);
             x.mark(0);
             Check.due("strip", x.strip(0, 2400), plank);
             Check.due("put", x.put(0, plank), true);
         }
-        see(x, 0, 0, 120, 36000 + 119 * 136800, -1, -1);
+        Check.lot(x, 0, 0, 120, 36000 + 119 * 136800, -1, -1);
     }
 
     private static void biddersThatAreNone() {
@@ -180,7 +174,7 @@ final class LotEdgesTest {
             Check.due("bid(0, 7, " + money + ")", x.bid(0, 7, money), true);
             Check.due("bid(0, 3, " + money + ")", x.bid(0, 3, money), true);
             Check.due("sell", x.sell(0), 3);
-            see(x, 0, 0, 0, 0, 3, money);
+            Check.lot(x, 0, 0, 0, 0, 3, money);
         }
     }
 
@@ -195,7 +189,7 @@ final class LotEdgesTest {
             CorkForest x = oneLot(floor);
             Check.due("bid of floor " + floor, x.bid(0, 6, floor), true);
             Check.due("sell", x.sell(0), 6);
-            see(x, 0, floor, 0, 0, 6, floor);
+            Check.lot(x, 0, floor, 0, 0, 6, floor);
         }
     }
 
@@ -218,12 +212,12 @@ final class LotEdgesTest {
         }
         Check.due("an equal one", x.bid(0, 1, 19), true);
         Check.due("sell", x.sell(0), 0);
-        see(x, 0, 10, 0, 0, 0, 19);
+        Check.lot(x, 0, 10, 0, 0, 0, 19);
         CorkForest y = oneLot(10);
         y.bid(0, 0, 50);
         y.bid(0, 0, 10);
         Check.due("sell to the only one", y.sell(0), 0);
-        see(y, 0, 10, 0, 0, 0, 10);
+        Check.lot(y, 0, 10, 0, 0, 0, 10);
     }
 
     private static void withoutABid() {
@@ -245,7 +239,7 @@ final class LotEdgesTest {
         CorkForest x = Made.fullLots();
         for (int lot = 0; lot < 20; lot++) {
             Check.due("sell(" + lot + ")", x.sell(lot), lot % 8);
-            see(x, lot, lot, 0, 0, lot % 8, lot);
+            Check.lot(x, lot, lot, 0, 0, lot % 8, lot);
         }
         Check.due("lots sold", x.count(4), 40);
         Check.due("money", x.count(5), 780);
@@ -267,7 +261,7 @@ final class LotEdgesTest {
             all.bid(0, bidder, 50);
         }
         Check.due("sell to one of all", all.sell(0), 0);
-        see(all, 0, 1, 0, 0, 0, 50);
+        Check.lot(all, 0, 1, 0, 0, 0, 50);
     }
 
     private static void forTheNextBid() {
@@ -280,7 +274,7 @@ final class LotEdgesTest {
                 }
                 int want = greatest != next ? 49 : greatest == 7 ? 16 : 17;
                 Check.due("sell", x.sell(0), greatest);
-                see(x, 0, 1, 0, 0, greatest, want);
+                Check.lot(x, 0, 1, 0, 0, greatest, want);
             }
         }
     }
@@ -291,20 +285,20 @@ final class LotEdgesTest {
             CorkForest x = oneLot(9);
             x.bid(0, bidder, 1000000);
             Check.due("sell to the only one", x.sell(0), bidder);
-            see(x, 0, 9, 0, 0, bidder, 9);
+            Check.lot(x, 0, 9, 0, 0, bidder, 9);
         }
         CorkForest free = oneLot(0);
         free.bid(0, 5, 1000000);
         Check.due("sell for nothing", free.sell(0), 5);
-        see(free, 0, 0, 0, 0, 5, 0);
+        Check.lot(free, 0, 0, 0, 0, 5, 0);
         Check.due("money", free.count(5), 0);
         Check.due("lots sold", free.count(4), 1);
     }
 
     private static void whatAnOfferTells() {
         Check.sentence(19, "what 0 FLOOR .. 3 to whom it was sold (NONE), 4 for what (NONE). NoSuchElementException");
-        see(Made.rich(), 0, 100, 1, 14400, -1, -1);
-        see(Made.rich(), 1, 30, 1, 270000, 4, 40);
+        Check.lot(Made.rich(), 0, 100, 1, 14400, -1, -1);
+        Check.lot(Made.rich(), 1, 30, 1, 270000, 4, 40);
         int[] other = {Made.LEAST, -2, -1, 5, 6, Made.MOST};
         Twins.refusedEach("offer(0, #)", Made::rich, (x, what) -> x.offer(0, what), Check.ELEMENT, other);
         Twins.refusedEach("offer(1, #), sold", Made::rich, (x, what) -> x.offer(1, what), Check.ELEMENT, other);

@@ -1,17 +1,12 @@
 /** Promises 15 to 19: lot, put, bid, sell, offer. */
 final class LotsTest {
     public static void main(String[] args) {
-        lotsAndTheirBounds();
         planksComeIntoLots();
         weightIsRoundedForEachPlank();
         weightOfTheGreatestPlanks();
-        bidsAndTheirBounds();
         soldForTheNextBid();
-        soldForTheFloor();
         laterBidsCount();
         tiesGoToTheLeastNumber();
-        aSoldLotStays();
-        wrongOffers();
         Check.finish();
     }
 
@@ -28,28 +23,6 @@ final class LotsTest {
         return x;
     }
 
-    private static void see(CorkForest x, int lot, int... want) {
-        for (int what = 0; what < want.length; what++) {
-            Check.due("offer(" + lot + ", " + what + ")", x.offer(lot, what), want[what]);
-        }
-    }
-
-    private static void lotsAndTheirBounds() {
-        CorkForest x = new CorkForest();
-        Check.thrown("lot(-1)", Check.ARGUMENT, () -> x.lot(-1));
-        Check.thrown("lot(1000001)", Check.ARGUMENT, () -> x.lot(1000001));
-        Check.due("lot(0)", x.lot(0), 0);
-        Check.due("lot(1000000)", x.lot(1000000), 1);
-        for (int i = 2; i < 40; i++) {
-            Check.due("lot " + i, x.lot(i), i);
-        }
-        Check.thrown("a 41st lot", Check.UNSUPPORTED, () -> x.lot(0));
-        Check.thrown("a wrong 41st lot", Check.ARGUMENT, () -> x.lot(-1));
-        see(x, 1, 1000000, 0, 0, -1, -1);
-        see(x, 39, 39, 0, 0, -1, -1);
-        Check.due("lots", x.count(3), 40);
-    }
-
     private static void planksComeIntoLots() {
         CorkForest x = withPlanks(3);
         x.lot(5);
@@ -61,12 +34,8 @@ final class LotsTest {
         Check.due("lot of plank 2", x.plank(2, 5), 1);
         Check.due("lot of plank 0", x.plank(0, 5), 1);
         Check.due("lot of plank 1", x.plank(1, 5), -1);
-        see(x, 0, 5, 0, 0, -1, -1);
+        Check.lot(x, 0, 5, 0, 0, -1, -1);
         Check.due("planks of lot 1", x.offer(1, 1), 2);
-        Check.thrown("put(2, 1)", Check.INDEX, () -> x.put(2, 1));
-        Check.thrown("put(-1, 1)", Check.INDEX, () -> x.put(-1, 1));
-        Check.thrown("put(0, 3)", Check.INDEX, () -> x.put(0, 3));
-        Check.thrown("put(0, -1)", Check.INDEX, () -> x.put(0, -1));
         Check.due("planks of lot 0", x.offer(0, 1), 0);
     }
 
@@ -100,24 +69,6 @@ final class LotsTest {
         Check.due("weight beyond 32 bits ahead of the division", x.offer(0, 2), 40 * 4320000);
     }
 
-    private static void bidsAndTheirBounds() {
-        CorkForest x = new CorkForest();
-        Check.thrown("bid without lots", Check.INDEX, () -> x.bid(0, 0, 0));
-        x.lot(100);
-        Check.thrown("bid(0, -1, 100)", Check.ARGUMENT, () -> x.bid(0, -1, 100));
-        Check.thrown("bid(0, 8, 100)", Check.ARGUMENT, () -> x.bid(0, 8, 100));
-        Check.thrown("bid(0, 0, -1)", Check.ARGUMENT, () -> x.bid(0, 0, -1));
-        Check.thrown("bid(0, 0, 1000001)", Check.ARGUMENT, () -> x.bid(0, 0, 1000001));
-        Check.thrown("bid(1, 8, -1)", Check.INDEX, () -> x.bid(1, 8, -1));
-        Check.due("bid below the floor", x.bid(0, 0, 99), false);
-        Check.due("nobody bid", x.sell(0), -1);
-        Check.due("bid of the floor", x.bid(0, 0, 100), true);
-        Check.due("the greatest bid", x.bid(0, 7, 1000000), true);
-        Check.due("sell", x.sell(0), 7);
-        see(x, 0, 100, 0, 0, 7, 100);
-        Check.thrown("a wrong bid for a sold lot", Check.ARGUMENT, () -> x.bid(0, 8, 0));
-    }
-
     private static void soldForTheNextBid() {
         int[][] orders = {{30, 20, 10}, {30, 10, 20}, {20, 30, 10}, {20, 10, 30}, {10, 30, 20}, {10, 20, 30}};
         CorkForest x = new CorkForest();
@@ -129,24 +80,10 @@ final class LotsTest {
                 greatest = orders[lot][i] == 30 ? 2 * i + 1 : greatest;
             }
             Check.due("sell", x.sell(lot), greatest);
-            see(x, lot, 5, 0, 0, greatest, 20);
+            Check.lot(x, lot, 5, 0, 0, greatest, 20);
         }
         Check.due("lots sold", x.count(4), 6);
         Check.due("money", x.count(5), 120);
-    }
-
-    private static void soldForTheFloor() {
-        CorkForest x = new CorkForest();
-        x.lot(7);
-        x.lot(0);
-        x.bid(0, 4, 900);
-        Check.due("sell of the only bid", x.sell(0), 4);
-        see(x, 0, 7, 0, 0, 4, 7);
-        x.bid(1, 0, 0);
-        Check.due("sell of a bid of 0", x.sell(1), 0);
-        see(x, 1, 0, 0, 0, 0, 0);
-        Check.due("lots sold", x.count(4), 2);
-        Check.due("money", x.count(5), 7);
     }
 
     private static void laterBidsCount() {
@@ -169,31 +106,5 @@ final class LotsTest {
         x.bid(0, 0, 20);
         Check.due("sell", x.sell(0), 2);
         Check.due("price", x.offer(0, 4), 50);
-    }
-
-    private static void aSoldLotStays() {
-        CorkForest x = withPlanks(1);
-        x.lot(10);
-        Check.due("sell without a bid", x.sell(0), -1);
-        Check.due("not sold", x.offer(0, 3), -1);
-        x.bid(0, 3, 10);
-        Check.due("sell", x.sell(0), 3);
-        Check.due("sell again", x.sell(0), -1);
-        Check.due("bid for a sold lot", x.bid(0, 5, 1000), false);
-        Check.due("put into a sold lot", x.put(0, 0), false);
-        Check.due("the plank is in no lot", x.plank(0, 5), -1);
-        see(x, 0, 10, 0, 0, 3, 10);
-        Check.thrown("sell(1)", Check.INDEX, () -> x.sell(1));
-        Check.thrown("sell(-1)", Check.INDEX, () -> x.sell(-1));
-    }
-
-    private static void wrongOffers() {
-        CorkForest x = new CorkForest();
-        Check.thrown("offer(0, 0) without lots", Check.INDEX, () -> x.offer(0, 0));
-        x.lot(10);
-        Check.thrown("offer(0, -1)", Check.ELEMENT, () -> x.offer(0, -1));
-        Check.thrown("offer(0, 5)", Check.ELEMENT, () -> x.offer(0, 5));
-        Check.thrown("offer(1, 5)", Check.INDEX, () -> x.offer(1, 5));
-        Check.thrown("offer(-1, 0)", Check.INDEX, () -> x.offer(-1, 0));
     }
 }

@@ -132,4 +132,14 @@ final class Made {
         }
         return x;
     }
+
+    /** Six stands in the last year alone, so that a change of any one shows; the plan has been asked for. */
+    static CorkForest crowdedStands() {
+        CorkForest x = new CorkForest();
+        for (int stand = 0; stand < 6; stand++) {
+            x.stand(10 + stand, 256);
+        }
+        x.even();
+        return x;
+    }
 }

@@ -32,8 +32,9 @@ final class StandEdgesTest {
         Check.sentence(24, "IllegalArgumentException: a number is none (a YIELD, 0 to 1000000)");
         int[] none = {Made.LEAST, -2, -1, 1000001, 1000002, Made.MOST};
         Twins.refusedEach("stand(#, 1)", Made::empty, (x, heavy) -> x.stand(heavy, 1), Check.ARGUMENT, none);
-        Twins.refusedEach("stand(#, 1)", Made::rich, (x, heavy) -> x.stand(heavy, 1), Check.ARGUMENT, none);
-        Twins.refusedEach("stand(#, 1)", Made::fullStands, (x, heavy) -> x.stand(heavy, 1), Check.ARGUMENT, none);
+        Twins.refusedEach("stand(#, 4)", Made::rich, (x, heavy) -> x.stand(heavy, 4), Check.ARGUMENT, none);
+        Twins.refusedEach("stand(#, 6)", Made::fullStands, (x, heavy) -> x.stand(heavy, 6), Check.ARGUMENT, none);
+        Twins.refusedEach("stand(#, 1)", Made::crowdedStands, (x, heavy) -> x.stand(heavy, 1), Check.ARGUMENT, none);
         int[] good = {0, 1, 999999, 1000000};
         for (int heavy : good) {
             CorkForest x = new CorkForest();
@@ -48,6 +49,7 @@ final class StandEdgesTest {
         Twins.refusedEach("stand(1, #)", Made::empty, (x, years) -> x.stand(1, years), Check.ARGUMENT, none);
         Twins.refusedEach("stand(1, #)", Made::rich, (x, years) -> x.stand(1, years), Check.ARGUMENT, none);
         Twins.refusedEach("stand(1, #)", Made::fullStands, (x, years) -> x.stand(1, years), Check.ARGUMENT, none);
+        Twins.refusedEach("stand(1, #)", Made::crowdedStands, (x, years) -> x.stand(1, years), Check.ARGUMENT, none);
         for (int years = 1; years <= 511; years++) {
             CorkForest x = new CorkForest();
             Check.due("stand(1, " + years + ")", x.stand(1, years), 0);
@@ -67,6 +69,8 @@ final class StandEdgesTest {
         Twins.refused("a 7th stand", Made::fullStands, y -> y.stand(1000000, 511), -1);
         Twins.refused("a 7th stand of the least", Made::fullStands, y -> y.stand(0, 1), -1);
         Twins.refused("a 7th stand of the last year", Made::fullStands, y -> y.stand(1000000, 256), -1);
+        Twins.refused("a 7th stand in a full year", Made::crowdedStands, y -> y.stand(1, 256), -1);
+        Twins.refused("a 7th stand in all years", Made::crowdedStands, y -> y.stand(10, 511), -1);
     }
 
     private static void withoutStands() {
@@ -124,6 +128,7 @@ final class StandEdgesTest {
         Twins.refusedEach("plan(#)", Made::empty, CorkForest::plan, Check.INDEX, ofNone);
         Twins.refusedEach("plan(#)", Made::rich, CorkForest::plan, Check.INDEX, ofThree);
         Twins.refusedEach("plan(#)", Made::fullStands, CorkForest::plan, Check.INDEX, ofSix);
+        Twins.refusedEach("plan(#)", Made::crowdedStands, CorkForest::plan, Check.INDEX, ofSix);
         Check.due("plan(0) of three", Made.rich().plan(0), 0);
         Check.due("plan(2) of three", Made.rich().plan(2), 2);
         Check.due("plan(5) of six", Made.fullStands().plan(5), 5);
@@ -135,5 +140,7 @@ final class StandEdgesTest {
         Twins.refused("even", Made::fullStands, CorkForest::even, 15);
         Twins.refused("plan", Made::rich, x -> x.plan(1), 1);
         Twins.refused("plan", Made::fullStands, x -> x.plan(0), 0);
+        Twins.refused("even", Made::crowdedStands, CorkForest::even, 75);
+        Twins.refused("plan", Made::crowdedStands, x -> x.plan(0), 8);
     }
 }

@@ -3,44 +3,11 @@ import java.util.Random;
 /** Promises 24 to 26: stand, even, plan. */
 final class StandsTest {
     public static void main(String[] args) {
-        standsAndTheirBounds();
-        withoutStands();
         someOfEvenSize();
         plansOfLeastYears();
         yieldsOfNothing();
         againstAllPlans();
         Check.finish();
-    }
-
-    private static void standsAndTheirBounds() {
-        CorkForest x = new CorkForest();
-        Check.thrown("stand(-1, 1)", Check.ARGUMENT, () -> x.stand(-1, 1));
-        Check.thrown("stand(1000001, 1)", Check.ARGUMENT, () -> x.stand(1000001, 1));
-        Check.thrown("stand(0, 0)", Check.ARGUMENT, () -> x.stand(0, 0));
-        Check.thrown("stand(0, 512)", Check.ARGUMENT, () -> x.stand(0, 512));
-        Check.thrown("stand(0, -1)", Check.ARGUMENT, () -> x.stand(0, -1));
-        Check.due("no stands", x.count(9), 0);
-        Check.due("stand(0, 1)", x.stand(0, 1), 0);
-        Check.due("stand(1000000, 511)", x.stand(1000000, 511), 1);
-        for (int i = 2; i < 6; i++) {
-            Check.due("stand " + i, x.stand(1000000, 256), i);
-        }
-        Check.due("even", x.even(), 4000000);
-        Check.due("a 7th stand", x.stand(1000000, 256), -1);
-        Check.thrown("a wrong 7th stand", Check.ARGUMENT, () -> x.stand(0, 0));
-        Check.due("6 stands", x.count(9), 6);
-        Check.due("even stays", x.even(), 4000000);
-        Check.due("plan(0)", x.plan(0), 0);
-        Check.due("plan(1)", x.plan(1), 0);
-        Check.due("plan(5)", x.plan(5), 8);
-        Check.thrown("plan(6)", Check.INDEX, () -> x.plan(6));
-        Check.thrown("plan(-1)", Check.INDEX, () -> x.plan(-1));
-    }
-
-    private static void withoutStands() {
-        CorkForest x = new CorkForest();
-        Check.due("even", x.even(), 0);
-        Check.thrown("plan(0)", Check.INDEX, () -> x.plan(0));
     }
 
     private static void someOfEvenSize() {

@@ -249,36 +249,27 @@ final class StrippingEdgesTest {
         x.wound(0);
         x.years(6, 50);
         Check.due("strip", x.strip(0, 440), 0);
-        int[] tree = {110, 0, 10, 440, 9, 0, 100, 100, 0, 0};
-        for (int what = 0; what < tree.length; what++) {
-            Check.due("look(0, " + what + ")", x.look(0, what), tree[what]);
-        }
+        Check.tree(x, 0, 110, 0, 10, 440, 9, 0, 100, 100, 0, 0);
         CorkForest inYearZero = marked("", 20);
         Check.due("strip in year 0", inYearZero.strip(0, 1), 0);
         Check.due("stripped in year 0", inYearZero.look(0, 2), 0);
     }
 
-    private static void see(CorkForest x, int plank, int... want) {
-        for (int what = 0; what < want.length; what++) {
-            Check.due("plank(" + plank + ", " + what + ")", x.plank(plank, what), want[what]);
-        }
-    }
-
     private static void whatAPlankTells() {
         Check.sentence(14, "what 0 TREE, 1 YEAR, 2 high, 3 wide, 4 thick, 5 its LOT (NONE). NoSuchElementException");
-        see(Made.rich(), 0, 0, 30, 200, 160, 450, 0);
-        see(Made.rich(), 1, 2, 30, 1000, 600, 450, 1);
-        see(Made.rich(), 2, 1, 33, 83, 83, 480, -1);
-        see(Made.fullPlanks(), 199, 0, 0, 200, 60, 0, -1);
+        Check.plank(Made.rich(), 0, 0, 30, 200, 160, 450, 0);
+        Check.plank(Made.rich(), 1, 2, 30, 1000, 600, 450, 1);
+        Check.plank(Made.rich(), 2, 1, 33, 83, 83, 480, -1);
+        Check.plank(Made.fullPlanks(), 199, 0, 0, 200, 60, 0, -1);
         int[] other = {Made.LEAST, -2, -1, 6, 7, Made.MOST};
         Twins.refusedEach("plank(0, #)", Made::rich, (x, what) -> x.plank(0, what), Check.ELEMENT, other);
         Twins.refusedEach("plank(199, #)", Made::fullPlanks, (x, what) -> x.plank(199, what), Check.ELEMENT, -1, 6);
         CorkForest x = marked("", 20);
         x.strip(0, 1);
-        see(x, 0, 0, 0, 1, 20, 0, -1);
+        Check.plank(x, 0, 0, 0, 1, 20, 0, -1);
         CorkForest thick = thickTree(3000, 200);
         thick.strip(0, 1840);
-        see(thick, 0, 0, 120, 1840, 460, 3000, -1);
+        Check.plank(thick, 0, 0, 120, 1840, 460, 3000, -1);
     }
 
     private static void noSuchPlank() {

@@ -4,9 +4,6 @@ import java.util.Random;
 final class StripsTest {
     public static void main(String[] args) {
         aNewStrip();
-        cellsAndTheirBounds();
-        flawsOfCells();
-        sortsAndTheirBounds();
         punchOfSomeStrips();
         fewestStoppersOfTheGreatestWorth();
         stoppersFromTheLongestStrip();
@@ -23,61 +20,6 @@ final class StripsTest {
         x.sort(1, 5, 0);
         Check.due("punch", x.punch(false), 5);
         Check.due("how many", x.punch(true), 1);
-    }
-
-    private static void cellsAndTheirBounds() {
-        CorkForest x = new CorkForest();
-        x.lay(7, 3, 0);
-        Check.thrown("lay(0, 0, 0)", Check.ARGUMENT, () -> x.lay(0, 0, 0));
-        Check.thrown("lay(61, 0, 0)", Check.ARGUMENT, () -> x.lay(61, 0, 0));
-        Check.thrown("lay(-1, 0, 0)", Check.ARGUMENT, () -> x.lay(-1, 0, 0));
-        Check.due("cells stay", x.count(6), 7);
-        Check.due("flaws stay", x.count(7), 2);
-        x.lay(60, 0, 0);
-        Check.due("60 cells", x.count(6), 60);
-        x.lay(1, 0, 0);
-        Check.due("1 cell", x.count(6), 1);
-    }
-
-    private static void flawsOfCells() {
-        CorkForest x = new CorkForest();
-        for (int cells = 1; cells <= 60; cells++) {
-            x.lay(cells, -1, -1);
-            Check.due("all flaws of " + cells, x.count(7), cells);
-            x.lay(cells, -1, 0);
-            Check.due("flaws in low of " + cells, x.count(7), Math.min(30, cells));
-            x.lay(cells, 0, -1);
-            Check.due("flaws in high of " + cells, x.count(7), Math.max(0, cells - 30));
-        }
-        x.lay(60, 3 << 30, 3 << 30);
-        Check.due("bits 30 and 31 count for nothing", x.count(7), 0);
-        x.lay(60, 1 << 29, 1 << 29);
-        Check.due("bits 29", x.count(7), 2);
-    }
-
-    private static void sortsAndTheirBounds() {
-        CorkForest x = new CorkForest();
-        Check.thrown("size 0", Check.ARGUMENT, () -> x.sort(0, 0, 0));
-        Check.thrown("size 13", Check.ARGUMENT, () -> x.sort(13, 0, 0));
-        Check.thrown("worth -1", Check.ARGUMENT, () -> x.sort(1, -1, 0));
-        Check.thrown("worth 1001", Check.ARGUMENT, () -> x.sort(1, 1001, 0));
-        Check.thrown("flaws -1", Check.ARGUMENT, () -> x.sort(1, 0, -1));
-        Check.thrown("flaws 13", Check.ARGUMENT, () -> x.sort(1, 0, 13));
-        Check.due("no sorts", x.count(8), 0);
-        Check.due("least of all", x.sort(1, 0, 0), 0);
-        Check.due("most of all", x.sort(12, 1000, 12), 1);
-        for (int i = 2; i < 6; i++) {
-            Check.due("sort " + i, x.sort(2, 1, 0), i);
-        }
-        Check.due("a 7th sort", x.sort(1, 1000, 12), -1);
-        Check.thrown("a wrong 7th sort", Check.ARGUMENT, () -> x.sort(0, 0, 0));
-        Check.due("6 sorts", x.count(8), 6);
-        Check.due("the 7th did not come", x.punch(false), 0);
-        Check.due("unsort", x.unsort(), 6);
-        Check.due("unsort again", x.unsort(), 0);
-        Check.due("no sorts any more", x.count(8), 0);
-        Check.due("numbers begin again", x.sort(1, 3, 0), 0);
-        Check.due("punch with the new sort", x.punch(false), 3);
     }
 
     private static void punchOfSomeStrips() {
