@@ -125,11 +125,13 @@ final class Made {
         return x;
     }
 
+    /** Six stands, each in a year of its own by the plan, which has been asked for. */
     static CorkForest fullStands() {
         CorkForest x = new CorkForest();
         for (int stand = 0; stand < 6; stand++) {
             x.stand(10 + stand, 3 << stand);
         }
+        x.even();
         return x;
     }
 
