@@ -46,7 +46,6 @@ public final class CorkForest {
 
     private final Tape tape;
     private final Law law;
-    private final LawReader lawReader;
     private final ArrayList<Tree> trees;
     private final ArrayList<Plank> planks;
     private final ArrayList<Lot> lots;
@@ -58,7 +57,6 @@ public final class CorkForest {
     public CorkForest() {
         tape = new Tape();
         law = new Law();
-        lawReader = new LawReader(tape, law);
         trees = new ArrayList<Tree>();
         planks = new ArrayList<Plank>();
         lots = new ArrayList<Lot>();
@@ -109,10 +107,11 @@ public final class CorkForest {
     }
 
     public int law() throws IllegalArgumentException {
-        int clauses = lawReader.readText();
+        LawReader reader = new LawReader(tape, law);
+        int clauses = reader.readText();
         tape.cutTo(0);
         if (clauses == NONE) {
-            wrongByte = lawReader.place();
+            wrongByte = reader.place();
             throw new IllegalArgumentException("the text is wrong");
         }
         wrongByte = NONE;
@@ -511,7 +510,7 @@ public final class CorkForest {
         }
     }
 
-    /** Reads the tape as a law's text; it stops at the begin of the first thing that cannot stand there. */
+    /** Reads the tape once as a law's text; it stops at the begin of the first thing that cannot stand there. */
     private static final class LawReader {
         private static final int BLANK = 32;
         private static final int MOST_DIGITS = 4;
@@ -532,7 +531,6 @@ public final class CorkForest {
 
         /** How many clauses there are; NONE, and the law stays, if the text is wrong. */
         int readText() {
-            place = 0;
             law.copyTo(draft);
             for (int clauses = 1; clauses <= MOST_TAPE; clauses++) {
                 if (!readClause()) {
